@@ -151,16 +151,14 @@ public final class WeaveHouse {
     private static final int OP_END = 25;
 
     // Columns.
-    private static final int TOKEN_KIND = 0;
-    private static final int TOKEN_PLACE = 1;
-    private static final int TOKEN_VALUE = 2;
     private static final int NAME_START = 0;
     private static final int NAME_LENGTH = 1;
+    // The length of a PART stands right behind its place.
     private static final int PATTERN_FIRST = 0;
     private static final int PATTERN_FIRST_LENGTH = 1;
-    private static final int PATTERN_PLUS = 2;
-    private static final int PATTERN_SECOND = 3;
-    private static final int PATTERN_SECOND_LENGTH = 4;
+    private static final int PATTERN_SECOND = 2;
+    private static final int PATTERN_SECOND_LENGTH = 3;
+    private static final int PATTERN_PLUS = 4;
     private static final int CLASS_NAME = 0;
     private static final int CLASS_PLACE = 1;
     private static final int CLASS_UNDER = 2;
@@ -613,10 +611,13 @@ public final class WeaveHouse {
         private static final byte[] OUR_NAMES = {'m', 'a', 'i', 'n', 'a', 'd', 'v', 'i', 'c', 'e', 'i', 'n', 'i', 't'};
 
         private final byte[] bytes = new byte[MOST_BYTES + 14];
-        private final Table rows = new Table(MOST_TOKENS + 2, 3);
+        private final int[] kinds = new int[MOST_TOKENS + 2];
+        private final int[] places = new int[MOST_TOKENS + 2];
+        private final int[] values = new int[MOST_TOKENS + 2];
         private final Table names = new Table(MOST_TOKENS + 4, 2);
         private final Table patterns = new Table(MOST_TOKENS + 2, 5);
         private int length;
+        private int made;
 
         Tokens() {
             System.arraycopy(OUR_NAMES, 0, bytes, MOST_BYTES, 14);
@@ -649,7 +650,7 @@ public final class WeaveHouse {
 
         /** Makes the TOKENS, up to the first that is none, or one more than there may be. */
         void scan() {
-            rows.cut(0);
+            made = 0;
             patterns.cut(0);
             names.cut(0);
             addName(MOST_BYTES, 4);
@@ -665,18 +666,6 @@ public final class WeaveHouse {
                 at = behindBlanks(end);
             }
             addToken(T_END, length, 0);
-        }
-
-        int kind(int token) {
-            return rows.at(token, TOKEN_KIND);
-        }
-
-        int place(int token) {
-            return rows.at(token, TOKEN_PLACE);
-        }
-
-        int value(int token) {
-            return rows.at(token, TOKEN_VALUE);
         }
 
         int ofPattern(int pattern, int what) {
@@ -890,10 +879,12 @@ public final class WeaveHouse {
         }
 
         private void addToken(int kind, int place, int value) {
-            int t = rows.add();
-            rows.put(t, TOKEN_KIND, kind);
-            rows.put(t, TOKEN_PLACE, place);
-            rows.put(t, TOKEN_VALUE, value);
+            if (made < kinds.length && made < places.length && made < values.length) {
+                kinds[made] = kind;
+                places[made] = place;
+                values[made] = value;
+                made++;
+            }
         }
     }
 
@@ -1003,6 +994,12 @@ public final class WeaveHouse {
         private static final int NO_PICKS = 1;
         private static final int NO_FLOWS = 2;
 
+        // What the ITEMS, MEMBERS and PARTS that stand next stand in.
+        private static final int TOP = 0;
+        private static final int CLASS = 1;
+        private static final int ASPECT = 2;
+        private static final int IN = 3;
+
         private final Tokens tokens;
         private final Faults faults;
         private final Program program;
@@ -1011,6 +1008,7 @@ public final class WeaveHouse {
         private int next;
         private int kind;
         private int place;
+        private int value;
         private boolean stopped;
         private int number;
         private int spot;
@@ -1022,6 +1020,8 @@ public final class WeaveHouse {
         private boolean around;
         private boolean bare;
         private int shape;
+        private int inside;
+        private int owner;
 
         Parser(Tokens tokens, Faults faults, Program program) {
             this.tokens = tokens;
@@ -1029,30 +1029,57 @@ public final class WeaveHouse {
             this.program = program;
         }
 
+        /** One loop over what stands in the TEXT and in { } of its ITEMS, so that the calls stay flat. */
         void read() {
             tokens.scan();
             stopped = false;
             bare = false;
-            next = 0;
-            kind = tokens.kind(0);
-            place = tokens.place(0);
-            for (int i = 0; i <= MOST_TOKENS && (kind == T_CLASS || kind == T_MAIN || kind == T_ASPECT
-                    || kind == T_ORDER); i++) {
-                if (kind == T_CLASS) {
-                    classItem();
-                } else if (kind == T_MAIN) {
-                    mainItem();
-                } else if (kind == T_ASPECT) {
-                    aspectItem();
-                } else {
-                    orderItem();
+            inside = TOP;
+            next = NONE;
+            take();
+            for (int i = 0; i <= MOST_TOKENS && !stopped && (kind != T_END || inside != TOP); i++) {
+                if (!fitsInside()) {
+                    refuse(2);
                 }
-            }
-            if (kind != T_END) {
-                refuse(2);
+                boolean once = inside == IN;
+                switch (kind) {
+                    case T_CLASS: classHead(); break;
+                    case T_MAIN: mainItem(); break;
+                    case T_ASPECT: aspectHead(); break;
+                    case T_ORDER: orderItem(); break;
+                    case T_FIELD: field(); break;
+                    case T_METHOD: method(); break;
+                    case T_IN: inHead(); break;
+                    case T_UNDER: underPart(); break;
+                    case T_PICK: pickPart(); break;
+                    case T_BEFORE:
+                    case T_BEHIND:
+                    case T_AROUND: advicePart(); break;
+                    case T_BAR:
+                    case T_WARN: barPart(); break;
+                    case T_CLOSE:
+                        take();
+                        inside = TOP;
+                        break;
+                    default: break;
+                }
+                if (once) {
+                    inside = ASPECT;
+                }
             }
             if (stopped) {
                 faults.note(number, spot);
+            }
+        }
+
+        private boolean fitsInside() {
+            boolean member = kind == T_FIELD || kind == T_METHOD;
+            switch (inside) {
+                case TOP: return kind == T_CLASS || kind == T_MAIN || kind == T_ASPECT || kind == T_ORDER;
+                case CLASS: return member || kind == T_CLOSE;
+                case ASPECT: return kind == T_FIELD || kind == T_IN || kind == T_PICK || kind == T_BEFORE
+                        || kind == T_BEHIND || kind == T_AROUND || kind == T_BAR || kind == T_WARN || kind == T_CLOSE;
+                default: return member || kind == T_UNDER;
             }
         }
 
@@ -1076,8 +1103,11 @@ public final class WeaveHouse {
                 return;
             }
             next++;
-            kind = tokens.kind(next);
-            place = tokens.place(next);
+            boolean there = next >= 0 && next < tokens.kinds.length && next < tokens.places.length
+                    && next < tokens.values.length;
+            kind = there ? tokens.kinds[next] : T_STOP;
+            place = there ? tokens.places[next] : NONE;
+            value = there ? tokens.values[next] : NONE;
         }
 
         private void need(int wanted) {
@@ -1096,7 +1126,7 @@ public final class WeaveHouse {
             } else if (!room) {
                 refuse(3);
             } else {
-                name = tokens.value(next);
+                name = value;
                 take();
             }
             return name;
@@ -1104,9 +1134,14 @@ public final class WeaveHouse {
 
         /** A NAME that has to mean a class. */
         private int className() {
-            int at = place;
-            int name = nameFor(true);
-            useClass(name, at);
+            int name = NONE;
+            if (kind == T_NAME) {
+                name = value;
+                useClass(name, place);
+                take();
+            } else {
+                refuse(2);
+            }
             return name;
         }
 
@@ -1167,8 +1202,12 @@ public final class WeaveHouse {
         }
 
         private int slotOf(int name) {
-            int row = name < 0 ? NONE : Program.firstWith(known, 0, name);
-            return known.at(row, 1);
+            for (int i = 0; i < known.size(); i++) {
+                if (known.at(i, 0) == name) {
+                    return known.at(i, 1);
+                }
+            }
+            return NONE;
         }
 
         /** A new LOCAL is known from here on: its slot. */
@@ -1214,7 +1253,7 @@ public final class WeaveHouse {
 
         // ---- ITEMS
 
-        private void classItem() {
+        private void classHead() {
             take();
             int at = place;
             int name = nameFor(program.classes.size() < MOST_CLASSES);
@@ -1227,22 +1266,66 @@ public final class WeaveHouse {
                 program.classes.put(c, CLASS_UNDER, className());
             }
             need(T_OPEN);
-            for (int i = 0; i <= MOST_TOKENS && (kind == T_FIELD || kind == T_METHOD); i++) {
-                member(name);
-            }
-            need(T_CLOSE);
+            inside = CLASS;
+            owner = name;
         }
 
-        private void member(int owner) {
-            if (kind == T_FIELD) {
-                classField(owner);
-            } else {
-                method(owner);
-            }
-        }
-
-        private void classField(int owner) {
+        private void aspectHead() {
             take();
+            int at = place;
+            int name = nameFor(program.aspects.size() < MOST_ASPECTS);
+            int a = stopped ? NONE : program.aspects.add();
+            program.aspects.put(a, ASPECT_NAME, name);
+            program.aspects.put(a, ASPECT_PLACE, at);
+            program.aspects.put(a, ASPECT_EACH, 0);
+            program.aspects.put(a, ASPECT_FIELDS, 0);
+            if (kind == T_EACH) {
+                take();
+                need(T_OBJECT);
+                program.aspects.put(a, ASPECT_EACH, 1);
+            }
+            need(T_OPEN);
+            inside = ASPECT;
+        }
+
+        private void inHead() {
+            take();
+            owner = className();
+            inside = IN;
+        }
+
+        private void underPart() {
+            take();
+            int u = program.unders.add();
+            program.unders.put(u, UNDER_CLASS, owner);
+            program.unders.put(u, UNDER_PLACE, place);
+            program.unders.put(u, UNDER_ABOVE, className());
+            need(T_SEMICOLON);
+        }
+
+        private void field() {
+            take();
+            if (inside == ASPECT) {
+                ownField(program.aspects.size() - 1);
+            } else {
+                classField();
+            }
+            need(T_SEMICOLON);
+        }
+
+        private void ownField(int a) {
+            int told = program.aspects.at(a, ASPECT_FIELDS);
+            int at = place;
+            int name = nameFor(told < MOST_FIELDS);
+            int f = stopped ? NONE : program.owns.add();
+            program.owns.put(f, OWN_ASPECT, a);
+            program.owns.put(f, OWN_NAME, name);
+            program.owns.put(f, OWN_PLACE, at);
+            program.owns.put(f, OWN_INDEX, told);
+            program.aspects.put(a, ASPECT_FIELDS, told + 1);
+        }
+
+        private void classField() {
             int told = 0;
             for (int i = 0; i < program.fields.size(); i++) {
                 told += program.fields.at(i, MEMBER_OWNER) == owner ? 1 : 0;
@@ -1253,30 +1336,26 @@ public final class WeaveHouse {
             program.fields.put(f, MEMBER_OWNER, owner);
             program.fields.put(f, MEMBER_NAME, name);
             program.fields.put(f, MEMBER_PLACE, at);
-            need(T_SEMICOLON);
         }
 
-        private void method(int owner) {
+        private void method() {
             take();
             int m = program.methods.size();
             enter(IN_METHOD, m, NONE);
-            if (kind != T_NAME) {
-                refuse(2);
-            } else if (m >= MOST_METHODS || program.points.size() >= MOST_POINTS) {
-                refuse(3);
-            } else {
+            int at = place;
+            int p = kind == T_NAME && m < MOST_METHODS ? newPoint(RUN, 0) : NONE;
+            int name = nameFor(p >= 0);
+            if (!stopped) {
                 program.methods.add();
             }
-            program.methods.put(m, MEMBER_OWNER, owner);
-            program.methods.put(m, MEMBER_PLACE, place);
-            int p = newPoint(RUN, 0);
-            program.methods.put(m, METHOD_POINT, p);
-            int name = nameFor(true);
-            program.methods.put(m, MEMBER_NAME, name);
             program.points.put(p, POINT_NAME, name);
+            program.methods.put(m, MEMBER_OWNER, owner);
+            program.methods.put(m, MEMBER_PLACE, at);
+            program.methods.put(m, MEMBER_NAME, name);
+            program.methods.put(m, METHOD_POINT, p);
             parameters();
-            program.methods.put(m, METHOD_PARAMS, slots);
             program.points.put(p, POINT_ARGS, slots);
+            program.methods.put(m, METHOD_PARAMS, slots);
             program.methods.put(m, METHOD_START, program.code.size());
             block(1);
             emit(OP_END, 0);
@@ -1310,75 +1389,9 @@ public final class WeaveHouse {
             program.orders.put(o, USE_NAME, nameFor(true));
         }
 
-        private void aspectItem() {
+        private void pickPart() {
             take();
-            int at = place;
-            int name = nameFor(program.aspects.size() < MOST_ASPECTS);
-            int a = stopped ? NONE : program.aspects.add();
-            program.aspects.put(a, ASPECT_NAME, name);
-            program.aspects.put(a, ASPECT_PLACE, at);
-            program.aspects.put(a, ASPECT_EACH, 0);
-            program.aspects.put(a, ASPECT_FIELDS, 0);
-            if (kind == T_EACH) {
-                take();
-                need(T_OBJECT);
-                program.aspects.put(a, ASPECT_EACH, 1);
-            }
-            need(T_OPEN);
-            boolean more = true;
-            for (int i = 0; i <= MOST_TOKENS && more; i++) {
-                more = part(a);
-            }
-            need(T_CLOSE);
-        }
-
-        private boolean part(int a) {
-            switch (kind) {
-                case T_FIELD: ownField(a); return true;
-                case T_IN: inPart(); return true;
-                case T_PICK: pickPart(a); return true;
-                case T_BEFORE:
-                case T_BEHIND:
-                case T_AROUND: advicePart(a); return true;
-                case T_BAR:
-                case T_WARN: barPart(a); return true;
-                default: return false;
-            }
-        }
-
-        private void ownField(int a) {
-            take();
-            int told = program.aspects.at(a, ASPECT_FIELDS);
-            int at = place;
-            int name = nameFor(told < MOST_FIELDS);
-            int f = stopped ? NONE : program.owns.add();
-            program.owns.put(f, OWN_ASPECT, a);
-            program.owns.put(f, OWN_NAME, name);
-            program.owns.put(f, OWN_PLACE, at);
-            program.owns.put(f, OWN_INDEX, told);
-            program.aspects.put(a, ASPECT_FIELDS, told + 1);
-            need(T_SEMICOLON);
-        }
-
-        private void inPart() {
-            take();
-            int name = className();
-            if (kind == T_UNDER) {
-                take();
-                int u = program.unders.add();
-                program.unders.put(u, UNDER_CLASS, name);
-                program.unders.put(u, UNDER_PLACE, place);
-                program.unders.put(u, UNDER_ABOVE, className());
-                need(T_SEMICOLON);
-            } else if (kind == T_FIELD || kind == T_METHOD) {
-                member(name);
-            } else {
-                refuse(2);
-            }
-        }
-
-        private void pickPart(int a) {
-            take();
+            int a = program.aspects.size() - 1;
             int p = program.picks.size();
             int at = place;
             int name = nameFor(p < MOST_PICKS);
@@ -1398,8 +1411,9 @@ public final class WeaveHouse {
             need(T_SEMICOLON);
         }
 
-        private void advicePart(int a) {
+        private void advicePart() {
             int word = kind;
+            int a = program.aspects.size() - 1;
             int i = program.advice.size();
             if (i >= MOST_ADVICE) {
                 refuse(3);
@@ -1426,7 +1440,8 @@ public final class WeaveHouse {
             emit(OP_END, 0);
         }
 
-        private void barPart(int a) {
+        private void barPart() {
+            int a = program.aspects.size() - 1;
             int b = program.bars.size();
             if (b >= MOST_BARS) {
                 refuse(3);
@@ -1528,11 +1543,23 @@ public final class WeaveHouse {
                     need(T_RIGHT);
                     return newNode(T_FLOW, at, inside);
                 }
-                case T_IF: return test(depth, at);
+                case T_IF: {
+                    take();
+                    need(T_LEFT);
+                    int start = program.code.size();
+                    bare = true;
+                    expression(depth + 1);
+                    bare = false;
+                    emit(OP_END, 0);
+                    need(T_RIGHT);
+                    int n = newNode(T_IF, at, NONE);
+                    program.nodes.put(n, NODE_A, start);
+                    return n;
+                }
                 case T_SELF:
                 case T_TARGET: return ofObject();
-                case T_ARGS: return ofArgs();
-                case T_NAME: return ofPick();
+                case T_ARGS: return ofList(T_ARGS);
+                case T_NAME: return ofList(T_PICK);
                 case T_CATCH:
                     take();
                     return newNode(T_CATCH, at, NONE);
@@ -1548,7 +1575,7 @@ public final class WeaveHouse {
                 refuse(2);
                 return n;
             }
-            int p = tokens.value(next);
+            int p = value;
             boolean two = tokens.ofPattern(p, PATTERN_SECOND_LENGTH) > 0;
             boolean plus = tokens.ofPattern(p, PATTERN_PLUS) == 1;
             if (word == T_MAKE ? two : word != T_WITHIN && plus && !two) {
@@ -1556,20 +1583,6 @@ public final class WeaveHouse {
             }
             program.nodes.put(n, NODE_A, p);
             take();
-            return n;
-        }
-
-        private int test(int depth, int at) {
-            take();
-            need(T_LEFT);
-            int start = program.code.size();
-            bare = true;
-            expression(depth + 1);
-            bare = false;
-            emit(OP_END, 0);
-            need(T_RIGHT);
-            int n = newNode(T_IF, at, NONE);
-            program.nodes.put(n, NODE_A, start);
             return n;
         }
 
@@ -1590,16 +1603,19 @@ public final class WeaveHouse {
             return n;
         }
 
-        private int ofArgs() {
-            int n = newNode(kind, place, NONE);
+        /** args, or a pick, with the row of NAMES behind it. */
+        private int ofList(int what) {
+            int n = newNode(what, place, NONE);
             int from = program.lists.size();
+            program.nodes.put(n, NODE_A, value);
             take();
             need(T_LEFT);
-            if (kind != T_RIGHT) {
-                arg(from);
-                for (int i = 0; i <= MOST_TOKENS && kind == T_COMMA; i++) {
+            boolean more = kind != T_RIGHT;
+            for (int i = 0; i <= MOST_TOKENS && more; i++) {
+                listed(what, program.lists.size() - from);
+                more = kind == T_COMMA;
+                if (more) {
                     take();
-                    arg(from);
                 }
             }
             need(T_RIGHT);
@@ -1608,55 +1624,27 @@ public final class WeaveHouse {
             return n;
         }
 
-        private void arg(int from) {
-            if (kind != T_NAME && kind != T_STAR) {
+        private void listed(int what, int before) {
+            boolean any = what == T_ARGS && kind == T_STAR;
+            if (kind != T_NAME && !any) {
                 refuse(2);
-            } else if (program.lists.size() - from >= MOST_ARGS) {
+            } else if (what == T_ARGS && before >= MOST_ARGS) {
                 refuse(3);
-            } else if (kind == T_STAR) {
-                program.lists.add();
-                take();
-            } else if (listName() < 0) {
-                int l = program.lists.size() - 1;
-                useClass(program.lists.at(l, LIST_NAME), program.lists.at(l, LIST_PLACE));
             }
-        }
-
-        /** A NAME of a list: the slot of the parameter that it is; NONE if it is none. */
-        private int listName() {
+            if (stopped) {
+                return;
+            }
+            int slot = any ? NONE : slotOf(value);
             int l = program.lists.add();
+            program.lists.put(l, LIST_NAME, any ? NONE : value);
             program.lists.put(l, LIST_PLACE, place);
-            int name = nameFor(true);
-            int slot = slotOf(name);
-            program.lists.put(l, LIST_NAME, name);
             program.lists.put(l, LIST_SLOT, slot);
-            return slot;
-        }
-
-        private int ofPick() {
-            int n = newNode(T_PICK, place, NONE);
-            int from = program.lists.size();
-            program.nodes.put(n, NODE_A, tokens.value(next));
+            if (!any && slot < 0 && what == T_ARGS) {
+                useClass(value, place);
+            } else if (slot < 0 && what == T_PICK) {
+                faults.note(5, place);
+            }
             take();
-            need(T_LEFT);
-            if (kind == T_NAME) {
-                handedName();
-                for (int i = 0; i <= MOST_TOKENS && kind == T_COMMA; i++) {
-                    take();
-                    handedName();
-                }
-            }
-            need(T_RIGHT);
-            program.nodes.put(n, NODE_B, from);
-            program.nodes.put(n, NODE_C, program.lists.size() - from);
-            return n;
-        }
-
-        private void handedName() {
-            int at = place;
-            if (listName() < 0 && !stopped) {
-                faults.note(5, at);
-            }
         }
 
         // ---- BLOCKS and S
@@ -1688,36 +1676,77 @@ public final class WeaveHouse {
                 return;
             }
             int start = emit(OP_STEP, 0);
-            switch (kind) {
-                case T_LET: letStatement(depth); break;
+            int word = kind;
+            switch (word) {
                 case T_IF: ifStatement(depth); break;
                 case T_WHILE: whileStatement(start, depth); break;
                 case T_TRY: tryStatement(depth); break;
-                case T_RETURN: returnStatement(depth); break;
-                case T_THROW:
+                case T_LET: {
                     take();
+                    int at = place;
+                    int name = nameFor(slots < MOST_LOCALS);
+                    need(T_BECOMES);
                     expression(depth + 1);
                     need(T_SEMICOLON);
-                    emit(OP_THROW, 0);
+                    emit(OP_KEEP_LOCAL, declare(name, at));
                     break;
+                }
+                case T_RETURN:
+                    take();
+                    if (kind == T_SEMICOLON) {
+                        emit(OP_NONE, 0);
+                    } else {
+                        expression(depth + 1);
+                    }
+                    need(T_SEMICOLON);
+                    emit(OP_RETURN, 0);
+                    break;
+                case T_THROW:
                 case T_PRINT:
                     take();
                     expression(depth + 1);
                     need(T_SEMICOLON);
-                    emit(OP_PRINT, 0);
+                    emit(word == T_THROW ? OP_THROW : OP_PRINT, 0);
                     break;
-                default: plainStatement(depth); break;
+                default:
+                    expression(depth + 1);
+                    if (kind == T_BECOMES && (shape == ALONE || shape == FIELD)) {
+                        int last = program.code.size() - 1;
+                        int op = program.code.at(last, CODE_OP);
+                        int a = program.code.at(last, CODE_A);
+                        int at = program.code.at(last, CODE_PLACE);
+                        program.code.cut(last);
+                        take();
+                        expression(depth + 1);
+                        need(T_SEMICOLON);
+                        emitKept(op, a, at);
+                    } else {
+                        endAct();
+                    }
+                    break;
             }
         }
 
-        private void letStatement(int depth) {
-            take();
-            int at = place;
-            int name = nameFor(slots < MOST_LOCALS);
-            need(T_BECOMES);
-            expression(depth + 1);
-            need(T_SEMICOLON);
-            emit(OP_KEEP_LOCAL, declare(name, at));
+        /** What worked the E before = keeps the value instead. */
+        private void emitKept(int op, int a, int at) {
+            if (op == OP_REACH) {
+                program.points.put(a, POINT_KIND, SET);
+                program.points.put(a, POINT_ARGS, 1);
+                emit(OP_REACH, a);
+                emit(OP_POP, 0);
+            } else {
+                nameOp(op == OP_LOCAL ? OP_KEEP_LOCAL : OP_KEEP_LOOSE, a, at);
+            }
+        }
+
+        /** The ; of a call, new or go alone. */
+        private void endAct() {
+            if (kind == T_SEMICOLON && shape == ACT) {
+                take();
+                emit(OP_POP, 0);
+            } else {
+                refuse(2);
+            }
         }
 
         private void ifStatement(int depth) {
@@ -1749,17 +1778,6 @@ public final class WeaveHouse {
             land(over);
         }
 
-        private void returnStatement(int depth) {
-            take();
-            if (kind == T_SEMICOLON) {
-                emit(OP_NONE, 0);
-            } else {
-                expression(depth + 1);
-            }
-            need(T_SEMICOLON);
-            emit(OP_RETURN, 0);
-        }
-
         private void tryStatement(int depth) {
             take();
             int t = program.tries.add();
@@ -1780,39 +1798,6 @@ public final class WeaveHouse {
             block(depth + 1);
             known.cut(before);
             land(over);
-        }
-
-        /** A call, new or go alone, or what a NAME or a field gets. */
-        private void plainStatement(int depth) {
-            expression(depth + 1);
-            int last = program.code.size() - 1;
-            if (kind == T_SEMICOLON && shape == ACT) {
-                take();
-                emit(OP_POP, 0);
-            } else if (kind == T_BECOMES && shape == ALONE) {
-                int keep = program.code.at(last, CODE_OP) == OP_LOCAL ? OP_KEEP_LOCAL : OP_KEEP_LOOSE;
-                int a = program.code.at(last, CODE_A);
-                int at = program.code.at(last, CODE_PLACE);
-                program.code.cut(last);
-                keptValue(depth);
-                nameOp(keep, a, at);
-            } else if (kind == T_BECOMES && shape == FIELD) {
-                int p = program.code.at(last, CODE_A);
-                program.code.cut(last);
-                program.points.put(p, POINT_KIND, SET);
-                program.points.put(p, POINT_ARGS, 1);
-                keptValue(depth);
-                emit(OP_REACH, p);
-                emit(OP_POP, 0);
-            } else {
-                refuse(2);
-            }
-        }
-
-        private void keptValue(int depth) {
-            take();
-            expression(depth + 1);
-            need(T_SEMICOLON);
         }
 
         // ---- E
@@ -1909,7 +1894,7 @@ public final class WeaveHouse {
             shape = OTHER;
             switch (kind) {
                 case T_WHOLE:
-                    emit(OP_WHOLE, tokens.value(next));
+                    emit(OP_WHOLE, value);
                     take();
                     break;
                 case T_NONE:
@@ -1923,7 +1908,13 @@ public final class WeaveHouse {
                     emit(OP_SELF, 0);
                     take();
                     break;
-                case T_NAME: headName(); break;
+                case T_NAME: {
+                    int slot = slotOf(value);
+                    nameOp(slot < 0 ? OP_LOOSE : OP_LOCAL, slot < 0 ? value : slot, place);
+                    take();
+                    shape = ALONE;
+                    break;
+                }
                 case T_NEW: headNew(depth); break;
                 case T_GO: headGo(depth); break;
                 default:
@@ -1933,14 +1924,6 @@ public final class WeaveHouse {
                     shape = OTHER;
                     break;
             }
-        }
-
-        private void headName() {
-            int at = place;
-            int name = nameFor(true);
-            int slot = slotOf(name);
-            nameOp(slot < 0 ? OP_LOOSE : OP_LOCAL, slot < 0 ? name : slot, at);
-            shape = ALONE;
         }
 
         private void nameOp(int op, int a, int at) {
@@ -2514,9 +2497,8 @@ public final class WeaveHouse {
         }
 
         private boolean lastMatches(int pattern, int name) {
-            boolean two = tokens.ofPattern(pattern, PATTERN_SECOND_LENGTH) > 0;
-            return two ? tokens.matches(tokens.ofPattern(pattern, PATTERN_SECOND),
-                    tokens.ofPattern(pattern, PATTERN_SECOND_LENGTH), name) : firstMatches(pattern, name);
+            int part = tokens.ofPattern(pattern, PATTERN_SECOND_LENGTH) > 0 ? PATTERN_SECOND : PATTERN_FIRST;
+            return tokens.matches(tokens.ofPattern(pattern, part), tokens.ofPattern(pattern, part + 1), name);
         }
 
         private int ofLeaf(int n, int kind, int point) {
@@ -2624,7 +2606,7 @@ public final class WeaveHouse {
         private final Table types = new Table(MOST_OBJECTS, 1);
         private final Values fields = new Values(MOST_OBJECTS * MOST_CHAIN);
         private final Values owns = new Values(MOST_ASPECTS * (MOST_OBJECTS + 1) * MOST_FIELDS);
-        private final Values stack = new Values(MOST_STACK);
+        private final long[] stack = new long[MOST_STACK];
         private final Values printed = new Values(MOST_KEPT);
         private final Table kept = new Table(MOST_KEPT, 2);
         private int top;
@@ -2657,13 +2639,18 @@ public final class WeaveHouse {
         }
 
         void push(long value) {
-            stack.put(top, value);
-            top++;
+            if (top >= 0 && top < stack.length) {
+                stack[top] = value;
+                top++;
+            }
         }
 
         long pop() {
-            top = top > 0 ? top - 1 : 0;
-            return stack.at(top);
+            if (top <= 0 || top > stack.length) {
+                return Values.NOTHING;
+            }
+            top--;
+            return stack[top];
         }
 
         /** Works an op that has nothing but the stack: 0, or the WHOLE that it throws. */
@@ -2741,7 +2728,8 @@ public final class WeaveHouse {
 
         boolean isOf(long value, int type) {
             int object = Values.number(value);
-            return object > 0 && program.isUnder(typeOf(object), type);
+            return object > 0 && type >= 0
+                    && (program.classes.at(types.at(object - 1, 0), CLASS_ABOVES) >> type & 1) == 1;
         }
 
         /** A new OBJECT; there has to be room. */
@@ -2775,8 +2763,9 @@ public final class WeaveHouse {
 
         private void clearOwn(int object) {
             for (int a = 0; a < program.aspects.size(); a++) {
-                for (int i = 0; i < MOST_FIELDS; i++) {
-                    putOwn(a, object, i, Values.NOTHING);
+                int from = (a * (MOST_OBJECTS + 1) + object) * MOST_FIELDS;
+                for (int i = from; i < from + MOST_FIELDS; i++) {
+                    owns.put(i, Values.NOTHING);
                 }
             }
         }
@@ -2841,6 +2830,8 @@ public final class WeaveHouse {
         private boolean woven;
         private int aspect;
         private int owner;
+        /** The row of the POINT that was reached last; NONE if there is none. */
+        private int latest = NONE;
 
         Holder(Program program, Ahead ahead, Store store) {
             this.program = program;
@@ -2851,12 +2842,14 @@ public final class WeaveHouse {
         void start(boolean isWoven) {
             woven = isWoven;
             reached.cut(0);
+            latest = NONE;
         }
 
         // ---- POINTS
 
         void reach(int point, long self, long target, Values args) {
             int r = reached.add();
+            latest = r;
             int count = program.points.at(point, POINT_ARGS);
             reached.put(r, 0, point);
             reached.put(r, 1, count);
@@ -2869,37 +2862,34 @@ public final class WeaveHouse {
         }
 
         void leave() {
-            reached.cut(reached.size() - 1);
+            reached.cut(latest);
+            latest = reached.size() - 1;
         }
 
-        private int latest() {
-            return reached.size() - 1;
-        }
-
-        int point() {
-            return reached.at(latest(), 0);
+        int reachedPoint() {
+            return reached.at(latest, 0);
         }
 
         int args() {
-            return reached.at(latest(), 1);
+            return reached.at(latest, 1);
         }
 
         int adviceCount() {
-            return reached.at(latest(), 2);
+            return reached.at(latest, 2);
         }
 
         long target() {
-            return held.at(latest() * REACHED_WIDTH + 1);
+            return held.at(latest * REACHED_WIDTH + 1);
         }
 
         int adviceAt(int j) {
-            int i = latest() * MOST_ADVICE + j;
+            int i = latest * MOST_ADVICE + j;
             return j >= 0 && i >= 0 && i < matched.length ? matched[i] : NONE;
         }
 
         /** What parameter k of the j-th advice is bound to. */
         long boundAt(int j, int k) {
-            return bindings.at((latest() * MOST_ADVICE + j) * MOST_ARGS + k);
+            return bindings.at((latest * MOST_ADVICE + j) * MOST_ARGS + k);
         }
 
         /** The OBJECT for which an advice is asked: 0 of an aspect that is not of each object; NONE if there is none. */
@@ -2908,14 +2898,14 @@ public final class WeaveHouse {
                 return 0;
             }
             int target = Values.number(target());
-            int object = target > 0 ? target : Values.number(held.at(latest() * REACHED_WIDTH));
+            int object = target > 0 ? target : Values.number(held.at(latest * REACHED_WIDTH));
             return object > 0 ? object : NONE;
         }
 
         // ---- advice
 
         void holdAll() {
-            int r = latest();
+            int r = latest;
             for (int k = 0; k < program.order.size(); k++) {
                 int a = program.order.at(k, 0);
                 aspect = program.advice.at(a, ADVICE_ASPECT);
@@ -2972,7 +2962,17 @@ public final class WeaveHouse {
                     }
                     return so;
                 }
-                default: return isAsked(n, r, base);
+                case T_IF:
+                    store.countTest();
+                    return isTrue(program.nodes.at(n, NODE_A), base);
+                default: {
+                    store.countTest();
+                    boolean so = isSo(n, r);
+                    if (so) {
+                        bindSlots(n, r, base);
+                    }
+                    return so;
+                }
             }
         }
 
@@ -3030,7 +3030,7 @@ public final class WeaveHouse {
                     child = kind == T_OR && binds ? NONE : program.nodes.at(child, NODE_NEXT);
                 }
             } else {
-                isSo(n, r, base);
+                bindSlots(n, r, base);
             }
         }
 
@@ -3047,16 +3047,12 @@ public final class WeaveHouse {
             int from = program.nodes.at(n, NODE_B);
             int count = program.nodes.at(n, NODE_C);
             for (int k = 0; k < count && k < MOST_ARGS; k++) {
-                bound.put(program.lists.at(from + k, LIST_SLOT), bound.at(PICKED + k));
+                bind(program.lists.at(from + k, LIST_SLOT), 0, bound.at(PICKED + k));
             }
         }
 
-        private boolean isAsked(int n, int r, int base) {
-            store.countTest();
-            return isSo(n, r, base);
-        }
-
-        private boolean isSo(int n, int r, int base) {
+        /** Whether what has no P below it, and is no if, is so. */
+        private boolean isSo(int n, int r) {
             switch (program.nodes.at(n, NODE_KIND)) {
                 case T_CALL:
                 case T_GET:
@@ -3064,11 +3060,31 @@ public final class WeaveHouse {
                     int is = ahead.known(n, reached.at(r, 0));
                     return is == Ahead.ALWAYS || is == Ahead.EITHER && isOfTypes(n, held.at(r * REACHED_WIDTH + 1));
                 }
-                case T_SELF: return isObject(n, held.at(r * REACHED_WIDTH), base);
-                case T_TARGET: return isObject(n, held.at(r * REACHED_WIDTH + 1), base);
-                case T_ARGS: return areArgs(n, r, base);
-                case T_IF: return isTrue(program.nodes.at(n, NODE_A), base);
+                case T_SELF: return isObject(n, held.at(r * REACHED_WIDTH));
+                case T_TARGET: return isObject(n, held.at(r * REACHED_WIDTH + 1));
+                case T_ARGS: return areArgs(n, r);
                 default: return ahead.known(n, reached.at(r, 0)) == Ahead.ALWAYS;
+            }
+        }
+
+        /** Binds the parameters of self, target and args that are so. */
+        private void bindSlots(int n, int r, int base) {
+            int kind = program.nodes.at(n, NODE_KIND);
+            int slot = program.nodes.at(n, NODE_A);
+            if (kind == T_ARGS) {
+                int from = program.nodes.at(n, NODE_B);
+                int count = program.nodes.at(n, NODE_C);
+                for (int i = 0; i < count; i++) {
+                    bind(program.lists.at(from + i, LIST_SLOT), base, held.at(r * REACHED_WIDTH + 2 + i));
+                }
+            } else if (kind == T_SELF || kind == T_TARGET) {
+                bind(slot, base, held.at(r * REACHED_WIDTH + (kind == T_SELF ? 0 : 1)));
+            }
+        }
+
+        private void bind(int slot, int base, long value) {
+            if (slot >= 0 && slot < MOST_ARGS) {
+                bound.put(base + slot, value);
             }
         }
 
@@ -3077,35 +3093,21 @@ public final class WeaveHouse {
             return object > 0 && (program.nodes.at(n, NODE_B) >> store.typeOf(object) & 1) == 1;
         }
 
-        private boolean isObject(int n, long value, int base) {
-            int slot = program.nodes.at(n, NODE_A);
-            if (slot < 0) {
-                return store.isOf(value, program.nodes.at(n, NODE_B));
-            }
-            if (Values.number(value) == 0) {
-                return false;
-            }
-            bound.put(base + slot, value);
-            return true;
+        private boolean isObject(int n, long value) {
+            boolean any = program.nodes.at(n, NODE_A) >= 0;
+            return any ? Values.number(value) > 0 : store.isOf(value, program.nodes.at(n, NODE_B));
         }
 
-        private boolean areArgs(int n, int r, int base) {
+        private boolean areArgs(int n, int r) {
             int from = program.nodes.at(n, NODE_B);
             int count = program.nodes.at(n, NODE_C);
             if (count != reached.at(r, 1)) {
                 return false;
             }
-            int args = r * REACHED_WIDTH + 2;
             for (int i = 0; i < count; i++) {
                 int type = program.lists.at(from + i, LIST_CLASS);
-                if (type >= 0 && !store.isOf(held.at(args + i), type)) {
+                if (type >= 0 && !store.isOf(held.at(r * REACHED_WIDTH + 2 + i), type)) {
                     return false;
-                }
-            }
-            for (int i = 0; i < count; i++) {
-                int slot = program.lists.at(from + i, LIST_SLOT);
-                if (slot >= 0) {
-                    bound.put(base + slot, held.at(args + i));
                 }
             }
             return true;
@@ -3273,11 +3275,11 @@ public final class WeaveHouse {
         }
 
         private long valueAt(int i) {
-            return values.at(latest() * BODY_VALUES + i);
+            return values.at((bodies.size() - 1) * BODY_VALUES + i);
         }
 
         private void putValue(int i, long v) {
-            values.put(latest() * BODY_VALUES + i, v);
+            values.put((bodies.size() - 1) * BODY_VALUES + i, v);
         }
 
         private int pushBody(int start, int where, long self) {
@@ -3482,7 +3484,7 @@ public final class WeaveHouse {
             if (given >= 0) {
                 putValue(AT_LOCALS + given, value);
             }
-            store.addRow(a, holder.point());
+            store.addRow(a, holder.reachedPoint());
             task = DO_CODE;
         }
 
@@ -3503,7 +3505,7 @@ public final class WeaveHouse {
         }
 
         private void act() {
-            int point = holder.point();
+            int point = holder.reachedPoint();
             switch (program.points.at(point, POINT_KIND)) {
                 case CALL: actCall(point); break;
                 case RUN: enterMethod(program.points.at(point, POINT_WHICH), holder.target()); break;
@@ -3524,12 +3526,8 @@ public final class WeaveHouse {
             } else if (program.methods.at(method, METHOD_PARAMS) != holder.args()) {
                 throwWhole(-4);
             } else {
-                reachRun(method, holder.target());
+                reach(program.methods.at(method, METHOD_POINT), holder.target(), holder.target());
             }
-        }
-
-        private void reachRun(int method, long self) {
-            reach(program.methods.at(method, METHOD_POINT), self, self);
         }
 
         private void actMake(int point) {
@@ -3546,7 +3544,7 @@ public final class WeaveHouse {
                     giveValue(made);
                 } else {
                     pushFrame(MAKES, Values.number(made));
-                    reachRun(init, made);
+                    reach(program.methods.at(init, METHOD_POINT), made, made);
                 }
             }
         }
