@@ -513,7 +513,6 @@ public final class WeaveHouse {
 
     /** A row of values, each a long: its kind above, itself (or the number of the OBJECT) in the 32 bits below. */
     private static final class Values {
-        static final int KIND_NONE = 0;
         static final int KIND_WHOLE = 1;
         static final int KIND_OBJECT = 2;
         static final long NOTHING = 0L;
