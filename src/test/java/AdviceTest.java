@@ -264,6 +264,10 @@ public final class AdviceTest {
         checks.due("many ROWS", many.told(3), 305);
         checks.due("the last that is kept", many.row(299, 0), 0);
         checks.dueThrow("row(300)", () -> many.row(300, 0), OUT);
+        many.begin(false);
+        checks.due("ROWS of the next RUN", many.told(3), 0);
+        checks.due("TESTS of the next RUN", many.told(1), 0);
+        checks.dueThrow("row(0) of the next RUN", () -> many.row(0, 0), OUT);
         // a ROW is made when the BLOCK is begun
         WeaveHouse slow = Checks.compiled("main { try { throw 1; } catch e { } } aspect P { before () catch { print 1; } }");
         slow.begin(false);

@@ -68,7 +68,22 @@ public final class AheadTest {
         due(checks, "args(*)", "1000010111");
         due(checks, "args(A)", "2000020222");
         due(checks, "if (1)", "2222222222");
+        stars(checks);
         due(checks, "if (none)", "2222222222");
+    }
+
+    /** * is any letters and digits, also none; all else is itself. */
+    private static void stars(Checks checks) {
+        String[] cases = {"abcab", "1", "abcab*", "1", "*abcab", "1", "*", "1", "**", "1", "a*b", "1", "a*c", "0", "*b", "1", "*c", "0",
+                "a*", "1", "b*", "0", "*c*", "1", "*ab", "1", "*abc", "0", "ab*ab", "1", "abc*cab", "0", "abca", "0", "bcab", "0",
+                "abcabc", "0", "*a*a*", "1", "*a*a*a*", "0", "*b*b", "1", "a**b", "1", "*ca*", "1", "*cb*", "0", "Abcab", "0", "*b1*", "0"};
+        for (int i = 0; i < cases.length; i += 2) {
+            WeaveHouse house = Checks.compiled("main { none.abcab(); } aspect P { before () call \"" + cases[i] + "\" { } }");
+            checks.due(cases[i] + " of abcab", house.meets(0, 0, 0), Integer.parseInt(cases[i + 1]));
+        }
+        WeaveHouse house = Checks.compiled("main { none.aab1aab2aaab(); } aspect P { before () call \"*aab*aaab\" { } before () call \"*aab3*\" { } }");
+        checks.due("*aab*aaab", house.meets(0, 0, 0), 1);
+        checks.due("*aab3*", house.meets(1, 0, 0), 0);
     }
 
     /** Of a class: 1 if the POINT stands in it or below it, 2 if it stands above it or where anything may be. */

@@ -102,6 +102,9 @@ public final class FaceTest {
         checks.due("values", house.told(2), 1);
         checks.dueThrow("feed(0)", () -> house.feed(0, 0), ARGUMENT);
         checks.due("values behind a feed that throws", house.told(2), 1);
+        checks.due("compile of the same text", house.compile(), 1);
+        noRun(checks, house, "the same text that is compiled again");
+        checks.due("begin", house.begin(false), 1);
         house.feed(1, ' ');
         nothingCompiled(checks, house, "a text that got longer");
         house.compile();

@@ -249,7 +249,28 @@ public final class FaultTest {
         checks.dueSound("main { " + times(15, "if 1 { } else ") + "{ } }", 0);
         checks.dueFault("main { " + times(15, "if 1 { } else ") + "if ^1 { } }", 3);
         checks.dueFault("main { " + "if 1 { } else { ".repeat(14) + "if 1 { } else if ^1 { } " + times(14, "}") + "}", 3);
+        nestedStatements(checks);
         nestedPicks(checks);
+    }
+
+    /** Each S and what stands in it, as deep as may be and one deeper. */
+    private static void nestedStatements(Checks checks) {
+        String[] inside = {"let b = #;", "print #;", "return #;", "throw #;", "b = #;", "b.x = #;", "b.f().x = b.g(#);", "if # { }", "while # { }",
+                "if 1 { print %; }", "if 1 { } else { print %; }", "if 1 { } else if % { }", "while 1 { print %; }",
+                "try { print %; } catch c { }", "try { } catch c { print %; }", "new A(%);", "b.f(%);", "print b.f(%).x;"};
+        for (String s : inside) {
+            String let = s.startsWith("let") ? "" : "let b = 1; ";
+            int room = s.contains("b.g(") || s.contains("%") ? 13 : 14;
+            for (int deep = room; deep <= room + 1; deep++) {
+                String e = times(deep, "(") + (deep > room ? "^1" : "1") + times(deep, ")");
+                String text = "class A { } main { " + let + s.replace("#", e).replace("%", e) + " }";
+                if (deep > room) {
+                    checks.dueFault(text, 3);
+                } else {
+                    checks.due("compile of " + text, Checks.fed(text).compile() >= 0 ? 1 : 0, 1);
+                }
+            }
+        }
     }
 
     private static void nestedPicks(Checks checks) {
@@ -321,6 +342,8 @@ public final class FaultTest {
         checks.dueFault("main { ^go; }", 5);
         checks.dueFault("class A { method f() { ^go; } }", 5);
         checks.dueFault("aspect P { before () catch { ^go; } }", 5);
+        checks.dueFault("aspect P { around () catch { go; } before () catch { ^go; } }", 5);
+        checks.dueFault("aspect P { around () catch { go; } } main { ^go; }", 5);
         checks.dueFault("aspect P { behind () catch { print 1 + ^go(1); } }", 5);
         checks.dueFault("aspect P { field n; } aspect Q { before () catch { print ^n; } }", 5);
         checks.dueFault("class A { } aspect P { field n; in A method f() { print ^n; } }", 5);
@@ -379,6 +402,8 @@ public final class FaultTest {
             checks.dueFault(advice.replace("%", "pick p(x) = self(x); ").replace("#", shut), 6);
         }
         checks.dueFault("aspect P { pick ^p(o) = catch; }", 6);
+        checks.dueFault("aspect P { before (o) p(o) { } pick p(x) = self(x); pick ^q(o) = self(o) and target(o); pick r(o) = self(o); }", 6);
+        checks.dueFault("aspect P { before (o) self(o) { } ^before (o) self(o) and target(o) { } before (o) self(o) { } }", 6);
         checks.dueFault("aspect P { pick ^p(o, q) = args(o, q) and self(o); }", 6);
         checks.dueFault("aspect P { pick p(o) = flow (target(^o)); }", 6);
         // the NAME of give, fail may be named in an if, but not bound

@@ -20,6 +20,7 @@ public final class RunTest {
         limits(checks);
         kept(checks);
         twice(checks);
+        longRun(checks);
         checks.end();
     }
 
@@ -276,5 +277,12 @@ public final class RunTest {
         checks.dueThrow("output then", () -> house.output(0, 0), OUT);
         house.run(2000);
         checks.due("THE OUTPUT then", Checks.output(house), "none failed #1");
+    }
+
+    /** What an S leaves behind does not pile up. */
+    private static void longRun(Checks checks) {
+        checks.dueOutput("class A { field x; method f(a) { try { throw a; } catch e { self.x = e; } return a; } } "
+                + "main { let a = new A(); let n = 0; while n < 8000 { n = n + 1; a.f(n); a.x = a.f(a.x) + 1; "
+                + "try { print 1 + a.f(1 / 0); } catch e { a.x = n; } } print a.x; print n; }", "8000 8000");
     }
 }

@@ -94,6 +94,14 @@ public final class ShapeTest {
         }
         checks.due("above", house.above(0), -1);
         checks.due("begin without main", house.begin(false), 0);
+        WeaveHouse often = Checks.fed("class A { method f() { try { throw 1; } catch e { return e; } } } main { let a = new A(); print a.f() + 1; } "
+                + "aspect P { pick p(o) = target(o) and (call \"f\" or get \"x\") and args(); before (o) p(o) { print o is A; } }");
+        for (int i = 0; i < 400; i++) {
+            checks.due("compile " + i, often.compile(), 4);
+        }
+        often.begin(true);
+        often.run(2000);
+        checks.due("THE OUTPUT behind many compiles", Checks.output(often), "1 2");
         checks.dueThrow("held of an earlier aspect", () -> house.held(0, 0, 0, 0), OUT);
     }
 }
