@@ -117,6 +117,8 @@ public final class AdviceTest {
         due(checks, "before (v) call \"*\" and (args(v) or target(v)) { print v; }", "a.f(1); try { a.g(); } catch e { }", "1 1 #1");
         due(checks, "pick p(o, v) = target(o) and args(v); before (v, o) p(o, v) and call \"f\" { print o; print v; }", "a.f(1);", "#1 1 1");
         due(checks, "pick p(o) = target(o) and if (o is A); before (x) p(x) and if (x != none) and call \"f\" { print x; }", "a.f(1);", "#1 1");
+        due(checks, "pick p(o) = self(o); before (x) p(x) and run \"f\" { print x; }", "a.f(1);", "#1 1");
+        due(checks, "pick p(v, o) = args(v) and self(o); before (o, v) run \"f\" and p(v, o) { print o; print v; }", "a.f(1);", "#1 1 1");
         // not bound yet, or undone, is NONE
         due(checks, "before (o) if (o == none) and call \"f\" and target(o) { print o; }", "a.f(1);", "#1 1");
         due(checks, "before (o) call \"f\" and (target(o) and if (0) or if (o == none) and target(o)) { print o; }", "a.f(1);", "#1 1");

@@ -124,6 +124,7 @@ public final class AheadTest {
         due(checks, "catch or run \"f\"", "1010000010");
         due(checks, "catch or call \"A.f\"", "0000000210");
         due(checks, "if (1) or catch", "2222222212");
+        due(checks, "catch or run \"f\" or get \"x\" or make \"A\"", "1011000011");
         due(checks, "if (1) or self(A)", "1111222222");
         due(checks, "not (if (1) and not catch)", "2222222212");
         due(checks, "if (1) and if (2) and if (3) or if (4)", "2/42/42/42/42/42/42/42/42/42/4");

@@ -31,7 +31,7 @@ public final class FaultTest {
     private static void tokens(Checks checks) {
         checks.dueSound("// a remark up to the end", 0);
         checks.dueSound("main\t{\r\n}// !!! \"\n//", 0);
-        checks.dueSound("class abcdefghijkl { }", 0);
+        checks.dueSound("class abcdefghijkl { } class aAzZ09 { }", 0);
         checks.dueSound("class classA { field main1; }", 0);
         checks.dueSound("main { print 999999999; print 000000001; }", 0);
         checks.dueFault("class ^abcdefghijklm { }", 1);
@@ -46,7 +46,7 @@ public final class FaultTest {
         checks.dueFault("^\u00e4", 1);
         checks.dueFault("main { print a^_; }", 1);
         String p = "aspect P { before () call %s { } }";
-        for (String good : new String[] {"\"a\"", "\"*\"", "\"abcdefghijkl\"", "\"A.b\"", "\"A+.b\"", "\"1*2.**\""}) {
+        for (String good : new String[] {"\"a\"", "\"*\"", "\"abcdefghijkl\"", "\"A.b\"", "\"A+.b\"", "\"1*2.**\"", "\"A.abcdefghijkl\"", "\"aAzZ09*.aAzZ09*\""}) {
             checks.dueSound(p.replace("%s", good), 0);
         }
         for (String bad : new String[] {"\"\"", "\"+\"", "\"a", "\"a b\"", "\"abcdefghijklm\"", "\"A.\"", "\".b\"",
@@ -145,6 +145,7 @@ public final class FaultTest {
         checks.dueFault("aspect P { pick p() = catch ^{ } }", 2);
         checks.dueFault("aspect P { pick p() ^catch; }", 2);
         checks.dueFault("aspect P { bar ^; }", 2);
+        checks.dueFault("aspect P { before () call ^{ } }", 2);
         checks.dueFault("aspect P { warn catch ^{ } }", 2);
         checks.dueFault("aspect P { behind () give ^catch { } }", 2);
         checks.dueFault("aspect P { before () ^give x catch { } }", 2);
@@ -257,7 +258,7 @@ public final class FaultTest {
     private static void nestedStatements(Checks checks) {
         String[] inside = {"let b = #;", "print #;", "return #;", "throw #;", "b = #;", "b.x = #;", "b.f().x = b.g(#);", "if # { }", "while # { }",
                 "if 1 { print %; }", "if 1 { } else { print %; }", "if 1 { } else if % { }", "while 1 { print %; }",
-                "try { print %; } catch c { }", "try { } catch c { print %; }", "new A(%);", "b.f(%);", "print b.f(%).x;"};
+                "try { print %; } catch c { }", "try { } catch c { print %; }", "new A(%);", "b.f(%);", "b.f(1, 2, %);", "print b.f(%).x;"};
         for (String s : inside) {
             String let = s.startsWith("let") ? "" : "let b = 1; ";
             int room = s.contains("b.g(") || s.contains("%") ? 13 : 14;
@@ -355,6 +356,7 @@ public final class FaultTest {
 
     private static void picksMean(Checks checks) {
         checks.dueFault("aspect P { before () self(^A) { } }", 5);
+        checks.dueFault("aspect P { before (o) self(o) { } bar self(^o); }", 5);
         checks.dueFault("aspect P { before () args(*, ^A) { } }", 5);
         checks.dueFault("aspect P { before () target(^P) { } }", 5);
         checks.dueFault("aspect P { before () ^p() { } }", 5);

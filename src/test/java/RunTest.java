@@ -140,6 +140,10 @@ public final class RunTest {
         print(checks, "1 < 2 == 1", "1");
         print(checks, "3 >= 3", "1");
         print(checks, "3 > 3", "0");
+        print(checks, "3 <= 3", "1");
+        print(checks, "2 >= 3", "0");
+        print(checks, "3 < 3", "0");
+        print(checks, "2*3-1/1%2", "5");
         print(checks, "2 <= 1", "0");
         print(checks, "2 < 3 < 2", "1");
         print(checks, "1 + 1 == 2 and 3 != 2 or 1 / 0", "1");
@@ -186,7 +190,7 @@ public final class RunTest {
                 + "main { print new B(1, 2); print new C(); }", "1 2 #1 #2");
         checks.dueOutput("class A { method f(a) { a = a + 1; return a; } } main { let a = 5; print new A().f(a); print a; }", "6 5");
         checks.dueOutput("class A { method f() { } method g() { return; } method h() { if 1 { return 3; } return 4; } } "
-                + "main { let a = new A(); print a.f(); print a.g(); print a.h(); }", "none none 3");
+                + "main { let a = new A(); print a.f(); print a.g(); print a.h(); print 5 == a.g(); }", "none none 3 0");
     }
 
     private static void failures(Checks checks) {
@@ -277,6 +281,14 @@ public final class RunTest {
         checks.dueThrow("output then", () -> house.output(0, 0), OUT);
         house.run(2000);
         checks.due("THE OUTPUT then", Checks.output(house), "none failed #1");
+        WeaveHouse open = Checks.compiled("class A { method f() { print 1; self.f(); } } main { new A().f(); print 2; }");
+        for (int i = 0; i < 3; i++) {
+            open.begin(i == 1);
+            checks.due("bodies at the beginning", open.told(6), 0);
+            open.run(9);
+            checks.due("bodies", open.told(6), 5);
+            checks.due("values", open.told(2), 4);
+        }
     }
 
     /** What an S leaves behind does not pile up. */
@@ -284,5 +296,7 @@ public final class RunTest {
         checks.dueOutput("class A { field x; method f(a) { try { throw a; } catch e { self.x = e; } return a; } } "
                 + "main { let a = new A(); let n = 0; while n < 8000 { n = n + 1; a.f(n); a.x = a.f(a.x) + 1; "
                 + "try { print 1 + a.f(1 / 0); } catch e { a.x = n; } } print a.x; print n; }", "8000 8000");
+        checks.dueOutput("class A { field x; method f() { } } main { let a = new A(); let n = 0; while n < 8000 { n = n + 1; a.x = n; } "
+                + "print a.x; while n < 16000 { n = n + 1; a.f(); } print n; }", "8000 16000");
     }
 }

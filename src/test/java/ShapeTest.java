@@ -102,6 +102,12 @@ public final class ShapeTest {
         often.begin(true);
         often.run(2000);
         checks.due("THE OUTPUT behind many compiles", Checks.output(often), "1 2");
+        often.wipe();
+        Checks.feed(often, "class C { method g() { return 1 / 0; } } main { let b = new C(); print b; print b.g(); }");
+        checks.due("compile of another text behind them", often.compile(), 3);
+        often.begin(false);
+        often.run(2000);
+        checks.due("THE OUTPUT of another text", Checks.output(often), "#1 failed -6");
         checks.dueThrow("held of an earlier aspect", () -> house.held(0, 0, 0, 0), OUT);
     }
 }
