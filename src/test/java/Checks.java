@@ -21,7 +21,7 @@ final class Checks {
         asked++;
         if (got != wanted) {
             wrong++;
-            System.out.println(name + ": " + what + " answered " + got + ", due is " + wanted);
+            System.out.println(name + ": " + shortened(what) + " answered " + got + ", due is " + wanted);
         }
     }
 
@@ -29,8 +29,12 @@ final class Checks {
         asked++;
         if (!got.equals(wanted)) {
             wrong++;
-            System.out.println(name + ": " + what + " answered [" + got + "], due is [" + wanted + "]");
+            System.out.println(name + ": " + shortened(what) + " answered [" + got + "], due is [" + wanted + "]");
         }
+    }
+
+    private static String shortened(String what) {
+        return what.length() <= 400 ? what : what.substring(0, 200) + " .. " + what.substring(what.length() - 200);
     }
 
     /** The simple name of what a call throws has to be that one; NOTHING if it has to answer. */
@@ -104,6 +108,15 @@ final class Checks {
             continue;
         }
         return house;
+    }
+
+    /** A text n times, each # in it being how many went before. */
+    static String times(int n, String text) {
+        StringBuilder all = new StringBuilder();
+        for (int i = 0; i < n; i++) {
+            all.append(text.replace("#", "" + i));
+        }
+        return all.toString();
     }
 
     static String value(int kind, int itself) {

@@ -21,11 +21,7 @@ public final class FaultTest {
     }
 
     private static String times(int n, String text) {
-        StringBuilder all = new StringBuilder();
-        for (int i = 0; i < n; i++) {
-            all.append(text.replace("#", "" + i));
-        }
-        return all.toString();
+        return Checks.times(n, text);
     }
 
     private static void tokens(Checks checks) {
