@@ -23,6 +23,7 @@ public final class EdgeFaultTest {
         samePlace(checks);
         whichCounts(checks);
         noMoreThanItself(checks);
+        manyTexts(checks);
         checks.end();
     }
 
@@ -339,6 +340,22 @@ public final class EdgeFaultTest {
                 checks.due("THE OUTPUT behind " + text, Checks.output(house), "#1 5");
                 house.wipe();
             }
+        }
+    }
+
+    /** However many NAMES and PATTERNS other texts had: there is room for those of the next. */
+    private static void manyTexts(Checks checks) {
+        WeaveHouse house = new WeaveHouse();
+        for (int i = 0; i < 350; i++) {
+            String text = " ".repeat(i) + "class C% { field f%; method m%(p%) { self.f% = p%; } } class D% { } aspect P% { in C% under D%; pick k%(o%) = target(o%) and args(*) and set \"C%.f%\"; "
+                    + "before (t%) k%(t%) and within \"C%.m%\" { print t%; } before () args(*, *) { } warn make \"C%+\"; } main { let a% = new C%(); a%.m%(" + i + "); print a%.f%; "
+                    + Checks.times(9, "let l#% = 1; ") + "} order P%;";
+            house.wipe();
+            Checks.feed(house, text.replace("%", "x" + i));
+            checks.due("compile " + i, house.compile(), 5);
+            house.begin(i % 2 == 0);
+            house.run(2000);
+            checks.due("THE OUTPUT " + i, Checks.output(house), "#1 " + i);
         }
     }
 }

@@ -384,6 +384,13 @@ public final class EdgePickTest {
         for (int i = 0; i < cases.length; i += 2) {
             checks.dueOutput(text.replace("%", cases[i]), cases[i + 1]);
         }
+        // all six ARGS of a POINT that was reached are kept, while others are reached
+        String six = "class A { field x; method k(a, b, c, d, e, f) { self.x = 1; } } aspect P { before () set \"x\" and flow (call \"k\" and args(%)) { print 1; } } "
+                + "main { let a = new A(); a.k(1, 2, 3, 4, 5, 6); print 0; a.k(1, 2, 3, 4, 5, a); print 0; a.k(a, 2, 3, 4, 5, 6); }";
+        checks.dueOutput(six.replace("%", "*, *, *, *, *, A"), "0 1 0");
+        checks.dueOutput(six.replace("%", "A, *, *, *, *, *"), "0 0 1");
+        checks.dueOutput(six.replace("%", "*, *, *, *, *, *"), "1 0 1 0 1");
+        checks.dueOutput(six.replace("%", "*, *, *, *, *"), "0 0");
         // the if in it is that of the advice, with what is bound, and the fields as they are now
         checks.dueOutput("class A { method m(v) { self.k(v); } method k(v) { } } aspect P { field n; before (v) call \"k\" and args(v) and flow (call \"m\" and if (v == 2)) { print v; } "
                 + "before () call \"k\" { n = 1; } before () call \"k\" and flow (call \"m\" and if (n)) { print 9; } } main { let a = new A(); a.m(1); a.m(2); }", "2 9");

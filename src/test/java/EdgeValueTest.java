@@ -268,6 +268,12 @@ public final class EdgeValueTest {
         checks.dueOutput(c + "let b = new B(); b.x = 1; b.y = 2; print b.x + b.y; print b.m(); print b.n(4); }", "3 1 4");
         // the nearest has other parameters than the one above it: only the nearest counts
         checks.dueOutput("class A { method m() { return 1; } } class B under A { method m(p) { return p; } } main { print new B().m(5); print new B().m(); }", "5 failed -4");
+        // the nearest may be the uppermost of twelve
+        StringBuilder twelve = new StringBuilder("class C0 { field x; method init(v) { self.x = v; } method m(v) { return self.x + v; } } ");
+        for (int i = 1; i < 12; i++) {
+            twelve.append("class C").append(i).append(" under C").append(i - 1).append(" { } ");
+        }
+        checks.dueOutput(twelve + "main { let c = new C11(40); print c.m(2); print c.x; c.x = 1; print c.x; print c is C0; print c.n(); }", "42 40 1 1 failed -3");
         // what aspects tell is told in the class
         checks.dueOutput("class A { field x; method m() { return 1; } } class B under A { } aspect P { in B field x; in B method m() { return self.x; } in A field w; } "
                 + "main { let b = new B(); b.x = 2; b.w = 3; print b.m(); print new A().m(); print b.w; }", "2 1 3");
@@ -361,6 +367,16 @@ public final class EdgeValueTest {
         checks.dueOutput(text.replace("%", "39"), "" + (1000 + 15 * 14 * 38));
         checks.dueOutput(text.replace("%", "40"), "" + (1000 + 15 * 14 * 39));
         checks.dueOutput(text.replace("%", "41"), "failed -7");
+        // a RUN that begins anew has none of the values that waited
+        WeaveHouse house = Checks.compiled(text.replace("%", "40"));
+        for (int i = 0; i < 5; i++) {
+            house.begin(i % 2 == 0);
+            checks.due("run deep", house.run(3 + 3 * 39), 1);
+            checks.due("bodies then", house.told(6), 40);
+        }
+        house.begin(true);
+        house.run(2000);
+        checks.due("THE OUTPUT then", Checks.output(house), "" + (1000 + 15 * 14 * 39));
         checks.dueOutput("class A { method m(n) { if n == 0 { throw 3; } return 1 + (2 + (3 + (4 + self.m(n - 1)))); } } "
                 + "main { let a = new A(); let i = 0; while i < 300 { i = i + 1; try { print 5 + a.m(30); } catch e { } } print i; }", "300");
     }
