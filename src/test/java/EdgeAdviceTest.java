@@ -24,6 +24,7 @@ public final class EdgeAdviceTest {
         begunAnew(checks);
         adviceOfAdvice(checks);
         catches(checks);
+        hiddenFields(checks);
         checks.end();
     }
 
@@ -384,5 +385,21 @@ public final class EdgeAdviceTest {
         checks.dueOutput("class A { method m() { throw 1; } } aspect P { before () catch and flow (call \"m\") { print 9; } before () catch and flow (catch) { print 3; } } "
                 + "main { try { new A().m(); } catch e { print e; } }", "3 1");
         checks.dueOutput("class A { method m() { try { throw 1; } catch e { print e; } } } aspect P { before () catch and flow (call \"m\") { print 9; } } main { new A().m(); }", "9 1");
+    }
+
+    /** A LOCAL that is known hides the field of the aspect, from behind its let to the end of its BLOCK. */
+    private static void hiddenFields(Checks checks) {
+        due(checks, "before () call \"m\" { n = 5; let n = n + 1; print n; n = 9; } before () call \"m\" { print n; }", "a.m(0);", "6 5 0");
+        due(checks, "before () call \"m\" { n = 5; if 1 { let n = 6; print n; n = 7; } print n; }", "a.m(0);", "6 5 0");
+        due(checks, "before (n) call \"m\" and args(n) { print n; n = 8; print n; } before () call \"m\" { print n; }", "a.m(1);", "1 8 none 1");
+        due(checks, "behind () give n call \"m\" { print n; n = 8; } behind () call \"m\" { print n; n = 3; }", "a.m(1); print 0; a.m(2);", "1 none 2 0 2 3 3");
+        due(checks, "before () call \"m\" { n = 5; try { throw 4; } catch n { print n; n = 3; } print n; }", "a.m(0);", "4 5 0");
+        due(checks, "before (n) call \"m\" and args(n) and if (n == 1) { print 7; } before () call \"m\" and if (n == none) { print 8; n = 1; }", "a.m(0); a.m(1);", "8 0 7 1");
+        due(checks, "pick p(n) = args(n) and if (n == 1); pick q() = if (n == none); before (v) call \"m\" and p(v) and q() { print v; n = 1; }", "a.m(0); a.m(1); a.m(1);", "0 1 1 1");
+        due(checks, "behind () give n call \"m\" and if (n == none) { print 6; } before () call \"m\" { n = 1; }", "a.m(0); a.m(0);", "0 6 0 6");
+        // a method that an aspect tells a class has none of them, nor has another aspect
+        checks.dueFault("class A { } aspect P { field n; in A method m() { print ^n; } }", 5);
+        checks.dueFault("aspect P { field n; } aspect Q { before () catch { print ^n; } }", 5);
+        checks.dueOutput("class A { field x; } aspect P { field n; before () set \"x\" { n = 1; } } aspect Q { field n; before () set \"x\" { print n; n = 2; print n; } } main { new A().x = 0; }", "none 2");
     }
 }
