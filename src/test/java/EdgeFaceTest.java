@@ -594,7 +594,7 @@ public final class EdgeFaceTest {
         checks.dueThrow("held(0, 2)", () -> slow.held(0, 2, 0, 0), OUT);
     }
 
-    /** So many TESTS and ROWS take minutes to make; so the counters are set close to their end. */
+    /** Two thousand million TESTS and ROWS are too many to make here; so the counters are set close to their end. */
     private static void mostCounted(Checks checks) throws Exception {
         WeaveHouse house = Checks.compiled("main { let n = 0; while n < 4 { none.x = 1; n = n + 1; } } aspect P { around () set \"x\" and if (1) { } }");
         house.begin(true);
