@@ -340,7 +340,7 @@ public final class WeaveHouse {
             throw new IndexOutOfBoundsException("meets");
         }
         int root = program.advice.at(advice, ADVICE_ROOT);
-        return what == 0 ? ahead.known(root, i) : ahead.left(root, i, 0);
+        return what == 0 ? ahead.known(root, i) : ahead.left(root, i);
     }
 
     public int finding(int k, int what) throws IndexOutOfBoundsException {
@@ -2369,13 +2369,17 @@ public final class WeaveHouse {
         }
 
         /** How many are LEFT of a P at a POINT. */
-        int left(int n, int point, int depth) {
+        int left(int n, int point) {
+            return leftBelow(n, point, 0);
+        }
+
+        private int leftBelow(int n, int point, int depth) {
             if (depth > DEEPEST || known(n, point) != EITHER) {
                 return 0;
             }
             int kind = program.nodes.at(n, NODE_KIND);
             if (kind == T_NOT || kind == T_PICK) {
-                return left(program.nodes.at(n, NODE_FIRST), point, depth + 1);
+                return leftBelow(program.nodes.at(n, NODE_FIRST), point, depth + 1);
             }
             if (kind != T_AND && kind != T_OR) {
                 return 1;
@@ -2383,7 +2387,7 @@ public final class WeaveHouse {
             int count = 0;
             int child = program.nodes.at(n, NODE_FIRST);
             for (int i = 0; i <= MOST_TOKENS && child >= 0; i++) {
-                count += left(child, point, depth + 1);
+                count += leftBelow(child, point, depth + 1);
                 child = program.nodes.at(child, NODE_NEXT);
             }
             return count;
