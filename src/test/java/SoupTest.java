@@ -3,13 +3,14 @@ import java.util.List;
 
 /**
  * All promises at once: texts and calls by a fixed row of numbers. Nothing but the exceptions of the face may come out,
- * LOOKING and WOVEN have to do the same, and the same calls have to give the same answers again.
+ * LOOKING and WOVEN have to do the same, the same calls have to give the same answers again, and so has an object that
+ * has had other texts before.
  */
 public final class SoupTest {
-    private static final String[] PIECES = ("class A { field x ; method f ( a ) { return a ; } } |class B under A { method g ( ) { self . f ( 1 ) ; } } "
+    private static final String[] PIECES = ("class A { field x ; method f ( a ) { return a ; } } |class B under A { method init ( ) { self . x = 1 ; } method g ( ) { self . f ( 1 ) ; } } "
             + "|aspect P { field n ; before ( ) call \"f\" { n = 1 ; } } |aspect Q each object { around ( o ) self ( o ) { return go ; } } "
             + "|main { let b = new B ( ) ; try { b . g ( ) ; b . x = b ; print b . x ; } catch e { print e ; } } |order Q , P ; "
-            + "|aspect R { pick p ( o ) = target ( o ) ; behind ( o ) give r p ( o ) and not flow ( catch ) { print r ; } warn catch ; } "
+            + "|aspect R { pick p ( o ) = target ( o ) ; behind ( o ) give r p ( o ) and not flow ( catch ) { print r ; } before ( ) within \"R.advice\" or within \"main\" and get \"x\" { print 8 ; } warn catch ; } "
             + "|in A field y ; |if ( n == none ) |{ |} |( |) |; |and |or |not |go |self |none |1 |+ |is A |. x |. f ( 2 ) |while 0 |throw 3 ; ").split("\\|");
 
     private long seed = 1;
@@ -64,9 +65,32 @@ public final class SoupTest {
         if (fault) {
             return 0;
         }
+        WeaveHouse fresh = Checks.compiled(text);
+        checks.due("what is told of " + text, all(house), all(fresh));
         String looking = done(house, false);
         checks.due("WOVEN of " + text, done(house, true), looking);
+        checks.due("WOVEN at once of " + text, done(fresh, true), looking);
         return 1;
+    }
+
+    /** All that is told of what is compiled. */
+    private static String all(WeaveHouse house) {
+        StringBuilder all = new StringBuilder();
+        for (int what = 0; what <= 6; what++) {
+            all.append(house.count(what)).append(' ');
+        }
+        for (int i = 0; i < house.count(4); i++) {
+            for (int what = 0; what <= 4; what++) {
+                all.append(house.point(i, what)).append(' ');
+            }
+            for (int a = 0; a < house.count(3); a++) {
+                all.append(house.meets(a, i, 0)).append('/').append(house.meets(a, i, 1)).append(' ');
+            }
+        }
+        for (int k = 0; k < house.count(6); k++) {
+            all.append(house.finding(k, 0)).append('@').append(house.finding(k, 2)).append('=').append(house.finding(k, 3)).append(' ');
+        }
+        return all.toString();
     }
 
     private String done(WeaveHouse house, boolean woven) {
